@@ -166,6 +166,9 @@ public final class PromisesTest {
         notched.cell(0, 0, 0, false);
         due(8, notched::room);
         due(282, notched::radius);
+        PeelRibbons small = fullLog(1, 4);
+        small.cell(0, 0, 0, false);
+        due(141, small::radius);
         // a room of 8 squares of half a cell: the same root, by 2
         PeelRibbons bent = fullLog(3, 6);
         bent.cell(1, 3, 3, false);
@@ -184,6 +187,7 @@ public final class PromisesTest {
         due(0, () -> x.roomOf(2, 2, 2, 2));
         due(1, () -> x.roomOf(2, 2, 1, 2));
         due(1, () -> x.roomOf(2, 2, 1, 1));
+        due(0, () -> x.roomOf(0, 2, 1, 2));
         dueThrows(INDEX, () -> x.roomOf(-1, 0, 0, 0));
         dueThrows(INDEX, () -> x.roomOf(5, 0, 0, 0));
         dueThrows(INDEX, () -> x.roomOf(0, -1, 0, 0));
@@ -384,6 +388,8 @@ public final class PromisesTest {
         dueClipped(x, 20, 0, 10);
         due(2, () -> x.clip(114));
         dueClipped(x, 20, 1, 11);
+        due(251, () -> x.clip(1));
+        dueClipped(x, 2510, 1, 1256);
         due(0, () -> x.clip(1000));
         dueClipped(x, 0, 1, 1);
         dueThrows(ARGUMENT, () -> x.clip(0));
@@ -463,6 +469,19 @@ public final class PromisesTest {
         due(1252, () -> behind.unrolled(0));
         due(12, () -> behind.clip(100));
         dueClipped(behind, 12, 0, 12);
+        // nor does one in the step to which another peeling had unrolled it
+        PeelRibbons moved = ribbonOf1256();
+        moved.leaf(1, 1);
+        moved.bars(0, 0, true);
+        moved.fault(0, 100, 0);
+        due(11, () -> moved.clip(100));
+        due(1, () -> moved.at(0, 1));
+        moved.peel(50, 0);
+        due(2199, () -> moved.unrolled(0));
+        due(30, () -> moved.clip(100));
+        due(0, () -> moved.at(0, 1));
+        due(20, () -> moved.at(20, 1));
+        due(22, () -> moved.at(21, 1));
         // a clipping without faults follows one with them
         PeelRibbons again = ribbonOf1256();
         again.leaf(12, 1);
@@ -485,6 +504,15 @@ public final class PromisesTest {
         due(2000, () -> x.clip(393));
         due(1997, () -> x.clip(394));
         dueClipped(x, 1997000000, 0, 1997);
+        // of faults in the first step that is cut off and in the last one that is not
+        x.bars(0, 0, true);
+        x.fault(145, 494, 0);
+        due(20004, () -> x.unrolled(0));
+        due(2000, () -> x.clip(10));
+        x.fault(144, 494, 0);
+        due(19996, () -> x.unrolled(1));
+        due(1999, () -> x.clip(10));
+        dueClipped(x, 1999000000, 1, 2000);
     }
 
     private static void at() {

@@ -1,0 +1,138 @@
+import java.io.IOException;
+import java.lang.reflect.Constructor;
+import java.lang.reflect.Field;
+import java.lang.reflect.Method;
+import java.lang.reflect.Modifier;
+import java.nio.file.Files;
+import java.nio.file.Path;
+import java.util.Arrays;
+import java.util.Set;
+import java.util.TreeSet;
+import java.util.regex.Matcher;
+import java.util.regex.Pattern;
+
+/** The face of the document, and those rules of LANGUAGE.md that a look at the class can tell. */
+public final class FaceTest {
+    private static final String SOURCE = "src/main/java/PeelRibbons.java";
+    private static final String[] FACE = {
+        "boolean cell(int,int,int,boolean) IndexOutOfBoundsException",
+        "int room()",
+        "int axis(int) IndexOutOfBoundsException",
+        "int radius()",
+        "int roomOf(int,int,int,int) IndexOutOfBoundsException",
+        "int peel(int,int) IllegalArgumentException",
+        "int before(int) IllegalStateException IndexOutOfBoundsException",
+        "int fault(int,int,int) IllegalArgumentException IllegalStateException",
+        "int unrolled(int) IndexOutOfBoundsException IllegalStateException",
+        "int leaf(int,int) IllegalArgumentException IllegalStateException",
+        "boolean bars(int,int,boolean) IndexOutOfBoundsException",
+        "int clip(int) IllegalArgumentException IllegalStateException",
+        "int at(int,int) IllegalStateException IndexOutOfBoundsException",
+        "int clipped(int) IllegalStateException IndexOutOfBoundsException",
+        "int shrink(int,int,int) IndexOutOfBoundsException IllegalArgumentException",
+        "boolean row(int,int) IllegalArgumentException",
+        "int knife(int) IllegalArgumentException",
+    };
+
+    private static int wrong = 0;
+
+    public static void main(String[] args) throws IOException {
+        methods();
+        constructorAndFields();
+        classesInside();
+        source();
+        System.out.println(wrong == 0 ? "the face is as due" : wrong + " faults in the face");
+        if (wrong != 0) {
+            System.exit(1);
+        }
+    }
+
+    private static void methods() {
+        Set<String> due = new TreeSet<>(Arrays.asList(FACE));
+        Set<String> names = new TreeSet<>();
+        Set<String> seen = new TreeSet<>();
+        for (Method method : PeelRibbons.class.getDeclaredMethods()) {
+            if (Modifier.isPublic(method.getModifiers())) {
+                seen.add(told(method));
+                names.add(method.getName());
+                check(!Modifier.isStatic(method.getModifiers()), method + " is static");
+            }
+        }
+        check(seen.equals(due), "public methods are " + seen);
+        for (Method method : PeelRibbons.class.getDeclaredMethods()) {
+            boolean isPrivate = Modifier.isPrivate(method.getModifiers());
+            check(isPrivate || Modifier.isPublic(method.getModifiers()), method + " is neither public nor private");
+            check(!isPrivate || !names.contains(method.getName()), method + " bears a public name");
+        }
+    }
+
+    private static String told(Method method) {
+        StringBuilder text = new StringBuilder();
+        text.append(method.getReturnType().getSimpleName()).append(' ').append(method.getName()).append('(');
+        String comma = "";
+        for (Class<?> type : method.getParameterTypes()) {
+            text.append(comma).append(type.getSimpleName());
+            comma = ",";
+        }
+        text.append(')');
+        for (Class<?> type : method.getExceptionTypes()) {
+            text.append(' ').append(type.getSimpleName());
+        }
+        return text.toString();
+    }
+
+    private static void constructorAndFields() {
+        check(Modifier.isFinal(PeelRibbons.class.getModifiers()), "the class is not final");
+        Constructor<?>[] constructors = PeelRibbons.class.getDeclaredConstructors();
+        check(constructors.length == 1, "there are " + constructors.length + " constructors");
+        check(Modifier.isPublic(constructors[0].getModifiers()), "the constructor is not public");
+        check(Arrays.equals(constructors[0].getParameterTypes(), new Class<?>[] {int.class, int.class}),
+                "the constructor takes something else");
+        for (Field field : PeelRibbons.class.getDeclaredFields()) {
+            boolean isNone = field.getName().equals("NONE");
+            check(isNone == Modifier.isPublic(field.getModifiers()), field + " is public or not");
+            check(isNone || Modifier.isPrivate(field.getModifiers()), field + " is not private");
+        }
+    }
+
+    private static void classesInside() {
+        Class<?>[] inside = PeelRibbons.class.getDeclaredClasses();
+        check(inside.length < 12, "there are " + inside.length + " classes inside");
+        for (Class<?> each : inside) {
+            check(Modifier.isStatic(each.getModifiers()), each + " is not static");
+            check(Modifier.isPrivate(each.getModifiers()), each + " is not private");
+            int fields = 0;
+            for (Field field : each.getDeclaredFields()) {
+                boolean isStatic = Modifier.isStatic(field.getModifiers());
+                check(!isStatic || Modifier.isFinal(field.getModifiers()), field + " can change");
+                fields += isStatic ? 0 : 1;
+            }
+            check(fields <= 20, each + " has " + fields + " fields");
+            for (Method method : each.getDeclaredMethods()) {
+                check(method.getParameterCount() <= 7, method + " takes too much");
+            }
+        }
+    }
+
+    private static void source() throws IOException {
+        String text = Files.readString(Path.of(SOURCE)).replaceAll("(?s)/\\*.*?\\*/", "").replaceAll("//.*", "");
+        String[] outside = {"import", "package", "->", "::", "catch", "finally", "synchronized", "assert", "while",
+            "System", "double", "float", "Exact("};
+        for (String word : outside) {
+            boolean isWord = !word.endsWith("(") && Character.isLetter(word.charAt(0));
+            String pattern = isWord ? "\\b" + word + "\\b" : Pattern.quote(word);
+            check(!Pattern.compile(pattern).matcher(text).find(), "the source has " + word);
+        }
+        Matcher thrown = Pattern.compile("\\bthrow\\b(?! new (IndexOutOfBounds|IllegalArgument|IllegalState)Exception\\(\"[^\"]*\"\\);)")
+                .matcher(text);
+        check(!thrown.find(), "something else is thrown");
+        check(text.chars().allMatch(c -> c < 128), "the source holds other characters");
+    }
+
+    private static void check(boolean good, String otherwise) {
+        if (!good) {
+            wrong++;
+            System.out.println(otherwise);
+        }
+    }
+}
