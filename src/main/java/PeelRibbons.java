@@ -30,8 +30,9 @@ public final class PeelRibbons {
     private final KnifeRows knifeRows;
 
     public PeelRibbons(int slices, int side) {
-        this.slices = new Slices(nearestOf(slices, 1, MOST_SLICES), nearestOf(side, 1, MOST_SIDE));
-        axes = new Axes(this.slices);
+        Slices told = new Slices(nearestOf(slices, 1, MOST_SLICES), nearestOf(side, 1, MOST_SIDE));
+        this.slices = told;
+        axes = new Axes(told);
         ribbon = new Ribbon();
         faults = new Faults();
         leaves = new Leaves();
@@ -211,6 +212,8 @@ public final class PeelRibbons {
         private final int parts;
         /** How many places lie on a line through a slice, both ends with it. */
         private final int reach;
+        /** How many cells lie on such a line, with one more beside each end that is never IN. */
+        private final int span;
         private final boolean[] in;
         private final int[] nearest;
         private final boolean[] isStale;
@@ -221,13 +224,14 @@ public final class PeelRibbons {
             this.side = side;
             parts = Math.max(1, count - 1);
             reach = side * parts + 1;
-            in = new boolean[count * side * side];
+            span = side + 2;
+            in = new boolean[count * span * span];
             nearest = new int[count * reach * reach];
             isStale = new boolean[count];
             for (int slice = 0; slice < count; slice++) {
                 isStale[slice] = true;
             }
-            nearestInColumn = new int[side + 2];
+            nearestInColumn = new int[span];
         }
 
         int count() {
@@ -260,13 +264,18 @@ public final class PeelRibbons {
             return isNew;
         }
 
-        /** The square of the distance from a place of a slice to what is not IN. */
+        /** The square of the distance from a place of a slice to what is not IN, once measured. */
         int nearestAt(int slice, int px, int py) {
-            if (isStale[slice]) {
-                measure(slice);
-                isStale[slice] = false;
-            }
             return nearest[(slice * reach + py) * reach + px];
+        }
+
+        void measureWhatChanged() {
+            for (int slice = 0; slice < count; slice++) {
+                if (isStale[slice]) {
+                    measure(slice);
+                    isStale[slice] = false;
+                }
+            }
         }
 
         private void measure(int slice) {
@@ -287,7 +296,7 @@ public final class PeelRibbons {
         private int nearestInColumnOf(int slice, int x, int py) {
             int least = Integer.MAX_VALUE;
             for (int y = -1; y <= side; y++) {
-                if (!isIn(slice, x, y)) {
+                if (!in[indexOf(slice, x, y)]) {
                     int gap = gap(py, y);
                     least = Math.min(least, gap * gap);
                 }
@@ -304,12 +313,9 @@ public final class PeelRibbons {
             return least;
         }
 
-        private boolean isIn(int slice, int x, int y) {
-            return hasCell(slice, x, y) && in[indexOf(slice, x, y)];
-        }
-
+        /** Also of a cell beside the slice, -1 or SIDE. */
         private int indexOf(int slice, int x, int y) {
-            return (slice * side + y) * side + x;
+            return (slice * span + y + 1) * span + x + 1;
         }
 
         /** How far a place is, along one line, from a cell with its sides. */
@@ -325,12 +331,16 @@ public final class PeelRibbons {
         private static final int HUNDREDTHS_SQUARED = 10000;
 
         private final Slices slices;
+        private final int side;
+        private final int parts;
         private final int[] numbers = new int[4];
         private int room;
         private boolean isStale = true;
 
         Axes(Slices slices) {
             this.slices = slices;
+            side = slices.side();
+            parts = slices.parts();
         }
 
         void forget() {
@@ -349,10 +359,11 @@ public final class PeelRibbons {
 
         int greatestRadius() {
             seekIfStale();
-            return rootOf(room * HUNDREDTHS_SQUARED) / slices.parts();
+            return rootOf(room * HUNDREDTHS_SQUARED) / parts;
         }
 
         int exactRoom(int x0, int y0, int x1, int y1) {
+            slices.measureWhatChanged();
             return roomAbove(0, x0, y0, x1, y1);
         }
 
@@ -371,11 +382,12 @@ public final class PeelRibbons {
         }
 
         private int placeAt(int slice, int from, int to) {
-            return from * slices.parts() + (to - from) * slice;
+            return from * parts + (to - from) * slice;
         }
 
         private void seekIfStale() {
             if (isStale) {
+                slices.measureWhatChanged();
                 seek();
                 isStale = false;
             }
@@ -387,9 +399,9 @@ public final class PeelRibbons {
          */
         private void seek() {
             keep(0, 0, 0, 0, 0);
-            for (int x0 = 0; x0 <= slices.side(); x0++) {
-                for (int y0 = 0; y0 <= slices.side(); y0++) {
-                    if (slices.nearestAt(0, x0 * slices.parts(), y0 * slices.parts()) > room) {
+            for (int x0 = 0; x0 <= side; x0++) {
+                for (int y0 = 0; y0 <= side; y0++) {
+                    if (slices.nearestAt(0, x0 * parts, y0 * parts) > room) {
                         seekFrom(x0, y0);
                     }
                 }
@@ -397,8 +409,8 @@ public final class PeelRibbons {
         }
 
         private void seekFrom(int x0, int y0) {
-            for (int x1 = 0; x1 <= slices.side(); x1++) {
-                for (int y1 = 0; y1 <= slices.side(); y1++) {
+            for (int x1 = 0; x1 <= side; x1++) {
+                for (int y1 = 0; y1 <= side; y1++) {
                     int found = roomAbove(room, x0, y0, x1, y1);
                     if (found > room) {
                         keep(found, x0, y0, x1, y1);

@@ -46,6 +46,19 @@ final class ClippingSentences extends Due {
         dueLeaves(shorter);
     }
 
+    @Sentence(promise = 13, says = "LENGTH is what lies BEFORE the turn behind the last one.")
+    static void stepsOfAllTurns() {
+        PeelRibbons x = fullLog(1, 4);
+        x.peel(60, 20);
+        due(2638, () -> x.before(3));
+        dueSteps(x, 2, 1319);
+        dueSteps(x, 659, 4);
+        dueSteps(x, 660, 3);
+        // without turns there is no step
+        x.peel(60, 200);
+        dueSteps(x, 1, 0);
+    }
+
     @Sentence(promise = 13, says = "the ribbon has LENGTH / STEP (cut off, at most 2000) steps")
     static void stepsAreAtMost2000() {
         PeelRibbons x = fullLog(1, 10);
@@ -166,8 +179,19 @@ final class ClippingSentences extends Due {
         due(0, () -> x.clip(100));
         x.bars(0, 2, false);
         due(1, () -> x.clip(100));
-        // two kinds in one step
+    }
+
+    @Sentence(promise = 13, says = "has no fault of a KIND that it bars")
+    static void eachOfSeveralFaultsInOneStepBars() {
+        PeelRibbons x = ribbonOf1256();
+        x.fault(144, 200, 2);
         x.fault(144, 200, 0);
+        x.leaf(12, 1);
+        x.leaf(12, 1);
+        x.bars(0, 2, true);
+        due(1, () -> x.clip(100));
+        dueLeaves(x, 1, 0);
+        x.bars(1, 0, true);
         due(0, () -> x.clip(100));
     }
 

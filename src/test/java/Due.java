@@ -146,17 +146,42 @@ abstract class Due {
     }
 
     /**
-     * All that calls can tell of a log of at most 2 by 4 by 4 cells. It changes the log, so it is
-     * the last that is done to it.
+     * All that calls can tell of a log of at most 2 by 4 by 4 cells. What is undone most easily
+     * is looked at first. It changes the log, so it is the last that is done to it.
      */
     private static String picture(PeelRibbons x) {
         StringBuilder all = new StringBuilder();
-        pictureLog(all, x);
         pictureRibbon(all, x);
+        pictureFaults(all, x);
         pictureRows(all, x);
+        pictureLog(all, x);
         pictureBars(all, x);
         pictureCells(all, x);
         return all.toString();
+    }
+
+    private static void pictureRibbon(StringBuilder all, PeelRibbons x) {
+        for (int k = 0; k < 8; k++) {
+            int number = k;
+            add(all, () -> x.clipped(number));
+            add(all, () -> x.at(number, 0));
+            add(all, () -> x.at(number, 1));
+            add(all, () -> x.before(number));
+        }
+    }
+
+    private static void pictureFaults(StringBuilder all, PeelRibbons x) {
+        for (int k = 0; k <= 16; k++) {
+            int number = k;
+            add(all, () -> x.unrolled(number));
+        }
+    }
+
+    private static void pictureRows(StringBuilder all, PeelRibbons x) {
+        for (int radius = 0; radius <= 1000; radius += 50) {
+            int at = radius;
+            add(all, () -> x.knife(at));
+        }
     }
 
     private static void pictureLog(StringBuilder all, PeelRibbons x) {
@@ -165,27 +190,6 @@ abstract class Due {
         for (int k = 0; k < 4; k++) {
             int number = k;
             add(all, () -> x.axis(number));
-        }
-    }
-
-    private static void pictureRibbon(StringBuilder all, PeelRibbons x) {
-        for (int k = 0; k <= 16; k++) {
-            int number = k;
-            add(all, () -> x.unrolled(number));
-        }
-        for (int k = 0; k < 8; k++) {
-            int number = k;
-            add(all, () -> x.before(number));
-            add(all, () -> x.clipped(number));
-            add(all, () -> x.at(number, 0));
-            add(all, () -> x.at(number, 1));
-        }
-    }
-
-    private static void pictureRows(StringBuilder all, PeelRibbons x) {
-        for (int radius = 0; radius <= 1000; radius += 50) {
-            int at = radius;
-            add(all, () -> x.knife(at));
         }
     }
 

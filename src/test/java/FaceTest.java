@@ -6,7 +6,9 @@ import java.lang.reflect.Modifier;
 import java.nio.file.Files;
 import java.nio.file.Path;
 import java.util.Arrays;
+import java.util.Map;
 import java.util.Set;
+import java.util.TreeMap;
 import java.util.TreeSet;
 import java.util.regex.Matcher;
 import java.util.regex.Pattern;
@@ -34,13 +36,17 @@ public final class FaceTest {
         "int knife(int) IllegalArgumentException",
     };
 
+    private static final Set<String> NO_CALLS = Set.of("if", "for", "while", "switch");
+    private static final int MOST_DEEP = 8;
+
     private static int wrong = 0;
 
     public static void main(String[] args) throws IOException {
         methods();
         constructorAndFields();
         classesInside();
-        source();
+        source(withoutComments());
+        depth(withoutComments());
         System.out.println(wrong == 0 ? "the face is as due" : wrong + " faults in the face");
         if (wrong != 0) {
             System.exit(1);
@@ -114,8 +120,11 @@ public final class FaceTest {
         }
     }
 
-    private static void source() throws IOException {
-        String text = Files.readString(Path.of(SOURCE)).replaceAll("(?s)/\\*.*?\\*/", "").replaceAll("//.*", "");
+    private static String withoutComments() throws IOException {
+        return Files.readString(Path.of(SOURCE)).replaceAll("(?s)/\\*.*?\\*/", "").replaceAll("//.*", "");
+    }
+
+    private static void source(String text) {
         String[] outside = {"import", "package", "->", "::", "catch", "finally", "synchronized", "assert", "while",
             "System", "double", "float", "Exact("};
         for (String word : outside) {
@@ -127,6 +136,53 @@ public final class FaceTest {
                 .matcher(text);
         check(!thrown.find(), "something else is thrown");
         check(text.chars().allMatch(c -> c < 128), "the source holds other characters");
+    }
+
+    /** Methods are told apart by their names alone, so this may find more depth than there is. */
+    private static void depth(String text) {
+        Map<String, Set<String>> calls = new TreeMap<>();
+        Matcher method = Pattern.compile("(?m)^ +(?:\\w+(?:\\[\\])? )*(\\w+)\\([^()]*\\)[^;{}()=]*\\{").matcher(text);
+        while (method.find()) {
+            if (!NO_CALLS.contains(method.group(1))) {
+                calls.computeIfAbsent(method.group(1), name -> new TreeSet<>())
+                        .addAll(namesCalled(bodyFrom(text, method.end())));
+            }
+        }
+        for (String line : FACE) {
+            String name = line.replaceAll("^\\w+ |\\(.*", "");
+            check(calls.containsKey(name), name + " was not found");
+            int deep = depthOf(name, calls, 1);
+            check(deep <= MOST_DEEP, name + " goes " + deep + " deep");
+        }
+    }
+
+    private static String bodyFrom(String text, int begin) {
+        int open = 1;
+        int end = begin;
+        for (; end < text.length() && open > 0; end++) {
+            open += text.charAt(end) == '{' ? 1 : text.charAt(end) == '}' ? -1 : 0;
+        }
+        return text.substring(begin, end);
+    }
+
+    private static Set<String> namesCalled(String body) {
+        Set<String> names = new TreeSet<>();
+        Matcher call = Pattern.compile("(\\w+)\\(").matcher(body);
+        while (call.find()) {
+            names.add(call.group(1));
+        }
+        names.removeAll(NO_CALLS);
+        return names;
+    }
+
+    private static int depthOf(String name, Map<String, Set<String>> calls, int depth) {
+        int deepest = depth;
+        if (depth <= 4 * MOST_DEEP) {
+            for (String called : calls.getOrDefault(name, Set.of())) {
+                deepest = Math.max(deepest, depthOf(called, calls, depth + 1));
+            }
+        }
+        return deepest;
     }
 
     private static void check(boolean good, String otherwise) {

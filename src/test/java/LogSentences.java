@@ -325,6 +325,9 @@ final class LogSentences extends Due {
         }
         due(9, () -> fullLog(4, 4).roomOf(1, 2, 2, 2));
         due(9, () -> fullLog(4, 4).roomOf(2, 2, 2, 3));
+        // none at one end, though some at the other
+        due(0, () -> fullLog(2, 4).roomOf(0, 2, 1, 2));
+        due(0, () -> fullLog(2, 4).roomOf(1, 2, 0, 2));
     }
 
     @Sentence(promise = 6, says = "to a place that is not IN (cells with their sides)")
