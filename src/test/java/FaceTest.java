@@ -16,6 +16,7 @@ import java.util.regex.Pattern;
 /** The face of the document, and those rules of LANGUAGE.md that a look at the class can tell. */
 public final class FaceTest {
     private static final String SOURCE = "src/main/java/PeelRibbons.java";
+    private static final Path DOCUMENT = Path.of("../shared/DOC.md");
     private static final String[] FACE = {
         "boolean cell(int,int,int,boolean) IndexOutOfBoundsException",
         "int room()",
@@ -43,6 +44,7 @@ public final class FaceTest {
 
     public static void main(String[] args) throws IOException {
         methods();
+        faceOfTheDocument();
         constructorAndFields();
         classesInside();
         source(withoutComments());
@@ -87,7 +89,25 @@ public final class FaceTest {
         return text.toString();
     }
 
+    /** The rows above are the document's own, but for the names of arguments. */
+    private static void faceOfTheDocument() throws IOException {
+        if (!Files.isReadable(DOCUMENT)) {
+            System.out.println("the document is not there, so its face was not looked up");
+            return;
+        }
+        Set<String> due = new TreeSet<>();
+        Matcher method = Pattern.compile("(?m)^ +public (\\w+ \\w+)\\((.*)\\)(?: throws (.*))?;$")
+                .matcher(Files.readString(DOCUMENT));
+        while (method.find()) {
+            String types = method.group(2).replaceAll(" \\w+(, |$)", ",").replaceAll(",$", "");
+            String thrown = method.group(3) == null ? "" : " " + method.group(3).replace(",", "");
+            due.add(method.group(1) + "(" + types + ")" + thrown);
+        }
+        check(due.equals(new TreeSet<>(Arrays.asList(FACE))), "the document's methods are " + due);
+    }
+
     private static void constructorAndFields() {
+        check(PeelRibbons.NONE == -1, "NONE is " + PeelRibbons.NONE);
         check(Modifier.isFinal(PeelRibbons.class.getModifiers()), "the class is not final");
         Constructor<?>[] constructors = PeelRibbons.class.getDeclaredConstructors();
         check(constructors.length == 1, "there are " + constructors.length + " constructors");

@@ -1,10 +1,6 @@
-import java.util.ArrayList;
-import java.util.Arrays;
-import java.util.List;
-
 /**
- * Long runs of calls against a plain model of the document, which does everything anew at each
- * call. The arguments come from a fixed row of numbers, so that every run is the same each time.
+ * Long runs of calls, compared with the model. The arguments come from a fixed row of numbers, so
+ * that every run is the same each time.
  */
 public final class ModelTest {
     private static final int RUNS = 400;
@@ -13,16 +9,16 @@ public final class ModelTest {
     private static int wrong = 0;
     private static long seed = 20261115;
     /** By call, how often it answered: a run in which all calls throw would test nothing. */
-    private static final int[] answersSeen = new int[17];
+    private static final int[] answersSeen = new int[Calls.COUNT];
 
     public static void main(String[] args) {
         for (int run = 0; run < RUNS && wrong < 20; run++) {
             oneRun(run);
         }
-        for (int call = 0; call < answersSeen.length; call++) {
+        for (int call = 0; call < Calls.COUNT; call++) {
             if (answersSeen[call] < 100) {
                 wrong++;
-                System.out.println("call " + call + " was hardly answered: " + answersSeen[call]);
+                System.out.println(Calls.name(call) + " was hardly answered: " + answersSeen[call]);
             }
         }
         System.out.println(wrong == 0 ? "all answers are those of the model" : wrong + " answers are not");
@@ -38,11 +34,11 @@ public final class ModelTest {
         Model model = new Model(slices, side);
         int called = fillBoth(run, x, model);
         for (; called < CALLS && wrong < 20; called++) {
-            int call = number(0, 16);
-            if (call == 0 && number(0, 3) != 0) {
-                call = number(5, 13);
+            int call = number(0, Calls.COUNT - 1);
+            if (call == Calls.CELL && number(0, 3) != 0) {
+                call = number(Calls.PEEL, Calls.CLIPPED);
             }
-            compare(run, x, model, call, arguments(call, model), number(0, 1) == 1);
+            compare(run, x, model, call, arguments(call, model));
         }
     }
 
@@ -54,7 +50,7 @@ public final class ModelTest {
             for (int cx = 0; cx < model.side; cx++) {
                 for (int cy = 0; cy < model.side; cy++) {
                     if (number(0, 99) >= holes * 3 && called < 400) {
-                        compare(run, x, model, 0, new int[] {slice, cx, cy, 0}, true);
+                        compare(run, x, model, Calls.CELL, new int[] {slice, cx, cy, 1});
                         called++;
                     }
                 }
@@ -64,30 +60,42 @@ public final class ModelTest {
     }
 
     private static int[] arguments(int call, Model m) {
-        int[] a = new int[4];
-        switch (call) {
-            case 0 -> fill(a, number(0, m.slices - 1), number(0, m.side - 1), number(0, m.side - 1), 0);
-            case 2 -> fill(a, number(0, 3), 0, 0, 0);
-            case 4 -> fill(a, number(0, m.side), number(0, m.side), number(0, m.side), number(0, m.side));
-            case 5 -> fill(a, number(0, 2) == 0 ? number(1, 1000) : number(1, 60),
-                    number(0, 3) == 0 ? number(0, 1000) : number(0, 100), 0, 0);
-            case 6 -> fill(a, number(0, Math.max(0, m.turns)), 0, 0, 0);
-            case 7 -> fill(a, number(0, 359), nearRadius(m), number(0, 3), 0);
-            case 8 -> fill(a, number(0, Math.max(0, m.faults.size() - 1)), 0, 0, 0);
-            case 9 -> fill(a, number(0, 5) == 0 ? number(1, 500) : number(1, 12), number(0, 6), 0, 0);
-            case 10 -> fill(a, number(0, Math.max(0, m.leaves.size() - 1)), number(0, 3), 0, 0);
-            case 11 -> fill(a, number(0, 1) == 0 ? number(1, 1000) : number(20, 120), 0, 0, 0);
-            case 12 -> fill(a, number(0, Math.max(0, m.chosen.size() / 2 - 1)), number(0, 1), 0, 0);
-            case 13 -> fill(a, number(0, 2), 0, 0, 0);
-            case 14 -> fill(a, number(0, Math.max(0, m.leaves.size() - 1)), number(0, 500), number(500, 1000), 0);
-            case 15 -> fill(a, number(0, Math.max(1, m.lastRowRadius() + 2)), number(-100, 100), 0, 0);
-            case 16 -> fill(a, number(0, 1000), 0, 0, 0);
-            default -> fill(a, 0, 0, 0, 0);
-        }
+        int[] a = goodArguments(call, m);
         if (number(0, 19) == 0) {
             a[number(0, 3)] = wildNumber();
         }
         return a;
+    }
+
+    private static int[] goodArguments(int call, Model m) {
+        return switch (call) {
+            case Calls.CELL -> of(number(0, m.slices - 1), number(0, m.side - 1), number(0, m.side - 1), number(0, 1));
+            case Calls.AXIS -> of(number(0, 3), 0, 0, 0);
+            case Calls.ROOM_OF -> of(number(0, m.side), number(0, m.side), number(0, m.side), number(0, m.side));
+            case Calls.PEEL -> of(number(0, 2) == 0 ? number(1, 1000) : number(1, 60),
+                    number(0, 3) == 0 ? number(0, 1000) : number(0, 100), 0, 0);
+            case Calls.BEFORE -> of(number(0, m.turns), 0, 0, 0);
+            case Calls.FAULT -> of(number(0, 359), nearRadius(m), number(0, 3), 0);
+            case Calls.UNROLLED -> of(oneOf(m.faults.size()), 0, 0, 0);
+            case Calls.LEAF -> of(number(0, 5) == 0 ? number(1, 500) : number(1, 12), number(0, 6), 0, 0);
+            case Calls.BARS -> of(oneOf(m.leaves.size()), number(0, 3), number(0, 1), 0);
+            case Calls.CLIP -> of(number(0, 1) == 0 ? number(1, 1000) : number(20, 120), 0, 0, 0);
+            case Calls.AT -> of(oneOf(m.chosen.size() / 2), number(0, 1), 0, 0);
+            case Calls.CLIPPED -> of(number(0, 2), 0, 0, 0);
+            case Calls.SHRINK -> of(oneOf(m.leaves.size()), number(0, 500), number(500, 1000), 0);
+            case Calls.ROW -> of(number(0, Math.max(1, m.lastRowRadius() + 2)), number(-100, 100), 0, 0);
+            case Calls.KNIFE -> of(number(0, 1000), 0, 0, 0);
+            default -> of(0, 0, 0, 0);
+        };
+    }
+
+    private static int[] of(int... numbers) {
+        return numbers;
+    }
+
+    /** One of so many, from 0 on; 0 if there are none. */
+    private static int oneOf(int count) {
+        return number(0, Math.max(0, count - 1));
     }
 
     private static int nearRadius(Model m) {
@@ -99,393 +107,20 @@ public final class ModelTest {
         return wild[number(0, wild.length - 1)];
     }
 
-    private static void fill(int[] a, int... numbers) {
-        System.arraycopy(numbers, 0, a, 0, a.length);
-    }
-
     private static int number(int least, int most) {
         seed = seed * 6364136223846793005L + 1442695040888963407L;
         return least + (int) Math.floorMod(seed >> 33, (long) most - least + 1);
     }
 
-    private static void compare(int run, PeelRibbons x, Model model, int call, int[] a, boolean on) {
-        String want = answerOfModel(model, call, a, on);
-        String got = answerOfClass(x, call, a, on);
-        if (want.startsWith("=")) {
+    private static void compare(int run, PeelRibbons x, Model model, int call, int[] a) {
+        String want = Calls.answerOf(model, call, a);
+        String got = Calls.answerOf(x, call, a);
+        if (Calls.isAnswer(want)) {
             answersSeen[call]++;
         }
         if (!want.equals(got)) {
             wrong++;
-            System.out.println("run " + run + " call " + call + " (" + a[0] + ", " + a[1] + ", " + a[2] + ", " + a[3]
-                    + ", " + on + ") answered " + got + ", due is " + want);
-        }
-    }
-
-    private static String answerOfClass(PeelRibbons x, int call, int[] a, boolean on) {
-        try {
-            return "=" + switch (call) {
-                case 0 -> toInt(x.cell(a[0], a[1], a[2], on));
-                case 1 -> x.room();
-                case 2 -> x.axis(a[0]);
-                case 3 -> x.radius();
-                case 4 -> x.roomOf(a[0], a[1], a[2], a[3]);
-                case 5 -> x.peel(a[0], a[1]);
-                case 6 -> x.before(a[0]);
-                case 7 -> x.fault(a[0], a[1], a[2]);
-                case 8 -> x.unrolled(a[0]);
-                case 9 -> x.leaf(a[0], a[1]);
-                case 10 -> toInt(x.bars(a[0], a[1], on));
-                case 11 -> x.clip(a[0]);
-                case 12 -> x.at(a[0], a[1]);
-                case 13 -> x.clipped(a[0]);
-                case 14 -> x.shrink(a[0], a[1], a[2]);
-                case 15 -> toInt(x.row(a[0], a[1]));
-                default -> x.knife(a[0]);
-            };
-        } catch (RuntimeException e) {
-            return e.getClass().getSimpleName();
-        }
-    }
-
-    private static String answerOfModel(Model m, int call, int[] a, boolean on) {
-        try {
-            return "=" + switch (call) {
-                case 0 -> toInt(m.cell(a[0], a[1], a[2], on));
-                case 1 -> m.axis()[4];
-                case 2 -> m.numberOfAxis(a[0]);
-                case 3 -> m.radiusNow();
-                case 4 -> m.roomOf(a[0], a[1], a[2], a[3]);
-                case 5 -> m.peel(a[0], a[1]);
-                case 6 -> m.before(a[0]);
-                case 7 -> m.fault(a[0], a[1], a[2]);
-                case 8 -> m.unrolled(a[0]);
-                case 9 -> m.leaf(a[0], a[1]);
-                case 10 -> toInt(m.bars(a[0], a[1], on));
-                case 11 -> m.clip(a[0]);
-                case 12 -> m.at(a[0], a[1]);
-                case 13 -> m.clipped(a[0]);
-                case 14 -> m.shrink(a[0], a[1], a[2]);
-                case 15 -> toInt(m.row(a[0], a[1]));
-                default -> m.knife(a[0]);
-            };
-        } catch (Refused e) {
-            return e.getMessage();
-        }
-    }
-
-    private static int toInt(boolean answer) {
-        return answer ? 1 : 0;
-    }
-
-    private static final class Refused extends RuntimeException {
-        private static final long serialVersionUID = 1;
-
-        Refused(String name) {
-            super(name);
-        }
-    }
-
-    /** The document's words, as plainly as they go. */
-    private static final class Model {
-        final int slices;
-        final int side;
-        final int parts;
-        final boolean[][][] in;
-        int[] axisFound;
-        boolean peeled;
-        boolean clipped;
-        int radius;
-        int thick;
-        int turns;
-        int steps;
-        int worth;
-        int waste;
-        final List<int[]> faults = new ArrayList<>();
-        final List<int[]> leaves = new ArrayList<>();
-        final List<boolean[]> barred = new ArrayList<>();
-        final List<int[]> rows = new ArrayList<>();
-        final List<Integer> chosen = new ArrayList<>();
-
-        Model(int slices, int side) {
-            this.slices = slices < 1 ? 1 : slices > 4 ? 4 : slices;
-            this.side = side < 1 ? 1 : side > 10 ? 10 : side;
-            parts = this.slices == 1 ? 1 : this.slices - 1;
-            in = new boolean[this.slices][this.side][this.side];
-        }
-
-        static void index(boolean good) {
-            if (!good) {
-                throw new Refused("IndexOutOfBoundsException");
-            }
-        }
-
-        static void argument(boolean good) {
-            if (!good) {
-                throw new Refused("IllegalArgumentException");
-            }
-        }
-
-        static void state(boolean good) {
-            if (!good) {
-                throw new Refused("IllegalStateException");
-            }
-        }
-
-        boolean cell(int slice, int x, int y, boolean isIn) {
-            index(slice >= 0 && slice < slices && x >= 0 && x < side && y >= 0 && y < side);
-            if (in[slice][x][y] == isIn) {
-                return false;
-            }
-            in[slice][x][y] = isIn;
-            axisFound = null;
-            peeled = false;
-            clipped = false;
-            return true;
-        }
-
-        boolean isCorner(int number) {
-            return number >= 0 && number <= side;
-        }
-
-        int roomOf(int x0, int y0, int x1, int y1) {
-            index(isCorner(x0) && isCorner(y0) && isCorner(x1) && isCorner(y1));
-            int least = Integer.MAX_VALUE;
-            for (int k = 0; k < slices; k++) {
-                int px = x0 * parts + (x1 - x0) * k;
-                int py = y0 * parts + (y1 - y0) * k;
-                for (int x = -1; x <= side; x++) {
-                    for (int y = -1; y <= side; y++) {
-                        boolean beside = x < 0 || y < 0 || x == side || y == side;
-                        if (beside || !in[k][x][y]) {
-                            int dx = Math.max(0, Math.max(x * parts - px, px - (x + 1) * parts));
-                            int dy = Math.max(0, Math.max(y * parts - py, py - (y + 1) * parts));
-                            least = Math.min(least, dx * dx + dy * dy);
-                        }
-                    }
-                }
-            }
-            return least;
-        }
-
-        /** x0, y0, x1, y1 and the room. */
-        int[] axis() {
-            if (axisFound != null) {
-                return axisFound;
-            }
-            int[] best = {0, 0, 0, 0, -1};
-            for (int x0 = 0; x0 <= side; x0++) {
-                for (int y0 = 0; y0 <= side; y0++) {
-                    for (int x1 = 0; x1 <= side; x1++) {
-                        for (int y1 = 0; y1 <= side; y1++) {
-                            int room = roomOf(x0, y0, x1, y1);
-                            if (room > best[4]) {
-                                best = new int[] {x0, y0, x1, y1, room};
-                            }
-                        }
-                    }
-                }
-            }
-            axisFound = best;
-            return best;
-        }
-
-        int numberOfAxis(int k) {
-            index(k >= 0 && k <= 3);
-            return axis()[k];
-        }
-
-        int radiusNow() {
-            int square = axis()[4] * 10000;
-            int root = 0;
-            while ((root + 1) * (root + 1) <= square) {
-                root++;
-            }
-            return root / parts;
-        }
-
-        int peel(int byThick, int core) {
-            argument(byThick >= 1 && byThick <= 1000 && core >= 0 && core <= 1000);
-            radius = radiusNow();
-            thick = byThick;
-            turns = 0;
-            while (radius - (turns + 1) * thick >= core) {
-                turns++;
-            }
-            peeled = true;
-            clipped = false;
-            return turns;
-        }
-
-        int before(int k) {
-            state(peeled);
-            index(k >= 0 && k <= turns);
-            long radii = 0;
-            for (int turn = 0; turn < k; turn++) {
-                radii += radius - turn * thick;
-            }
-            return (int) (radii * 710 / 113);
-        }
-
-        int fault(int angle, int atRadius, int kind) {
-            argument(angle >= 0 && angle <= 359 && atRadius >= 0 && atRadius <= 1000 && kind >= 0 && kind <= 3);
-            state(faults.size() < 16);
-            faults.add(new int[] {angle, atRadius, kind});
-            clipped = false;
-            return faults.size() - 1;
-        }
-
-        int unrolled(int fault) {
-            index(fault >= 0 && fault < faults.size());
-            state(peeled);
-            int[] f = faults.get(fault);
-            for (int turn = 0; turn < turns; turn++) {
-                int begin = radius - turn * thick;
-                if (f[1] <= begin && f[1] > begin - thick) {
-                    return before(turn) + begin * 710 / 113 * f[0] / 360;
-                }
-            }
-            return -1;
-        }
-
-        int leaf(int width, int leafWorth) {
-            argument(width >= 1 && width <= 500 && leafWorth >= 0 && leafWorth <= 1000000);
-            state(leaves.size() < 6);
-            leaves.add(new int[] {width, leafWorth});
-            barred.add(new boolean[4]);
-            clipped = false;
-            return leaves.size() - 1;
-        }
-
-        boolean bars(int leaf, int kind, boolean on) {
-            index(leaf >= 0 && leaf < leaves.size() && kind >= 0 && kind <= 3);
-            if (barred.get(leaf)[kind] == on) {
-                return false;
-            }
-            barred.get(leaf)[kind] = on;
-            clipped = false;
-            return true;
-        }
-
-        boolean mayLie(int leaf, int first, int step) {
-            int end = first + leaves.get(leaf)[0];
-            if (end > steps) {
-                return false;
-            }
-            for (int fault = 0; fault < faults.size(); fault++) {
-                int place = unrolled(fault);
-                boolean inside = place != -1 && place / step >= first && place / step < end;
-                if (inside && barred.get(leaf)[faults.get(fault)[2]]) {
-                    return false;
-                }
-            }
-            return true;
-        }
-
-        /** Whole rows of choices are compared: each leaf by its number, waste as a 6. */
-        int clip(int step) {
-            argument(step >= 1 && step <= 1000);
-            state(peeled);
-            steps = Math.min(2000, before(turns) / step);
-            Rest[] rests = new Rest[steps + 1];
-            rests[steps] = new Rest(0, 0, new int[0]);
-            for (int at = steps - 1; at >= 0; at--) {
-                Rest best = rests[at + 1].after(6, 0, 1);
-                for (int leaf = 0; leaf < leaves.size(); leaf++) {
-                    if (mayLie(leaf, at, step)) {
-                        int[] numbers = leaves.get(leaf);
-                        best = better(best, rests[at + numbers[0]].after(leaf, numbers[1], 0));
-                    }
-                }
-                rests[at] = best;
-            }
-            read(rests[0]);
-            clipped = true;
-            return chosen.size() / 2;
-        }
-
-        void read(Rest all) {
-            worth = all.worth;
-            waste = all.waste;
-            chosen.clear();
-            int at = 0;
-            for (int choice : all.choices) {
-                if (choice == 6) {
-                    at++;
-                } else {
-                    chosen.add(choice);
-                    chosen.add(at);
-                    at += leaves.get(choice)[0];
-                }
-            }
-        }
-
-        static Rest better(Rest a, Rest b) {
-            if (a.worth != b.worth) {
-                return a.worth > b.worth ? a : b;
-            }
-            if (a.waste != b.waste) {
-                return a.waste < b.waste ? a : b;
-            }
-            return Arrays.compare(a.choices, b.choices) <= 0 ? a : b;
-        }
-
-        int at(int k, int what) {
-            state(clipped);
-            index(k >= 0 && k < chosen.size() / 2 && what >= 0 && what <= 1);
-            return chosen.get(k * 2 + what);
-        }
-
-        int clipped(int what) {
-            state(clipped);
-            index(what >= 0 && what <= 2);
-            return new int[] {worth, waste, steps}[what];
-        }
-
-        int shrink(int leaf, int above, int below) {
-            index(leaf >= 0 && leaf < leaves.size());
-            argument(below >= 1 && below <= 1000 && above >= 0 && above <= below);
-            return leaves.get(leaf)[0] * above / below;
-        }
-
-        int lastRowRadius() {
-            return rows.isEmpty() ? 1000 : rows.get(rows.size() - 1)[0];
-        }
-
-        boolean row(int atRadius, int angle) {
-            argument(atRadius >= 0 && atRadius <= 1000 && angle >= -100 && angle <= 100);
-            argument(rows.isEmpty() || atRadius < lastRowRadius());
-            return rows.size() < 8 && rows.add(new int[] {atRadius, angle});
-        }
-
-        int knife(int atRadius) {
-            argument(atRadius >= 0 && atRadius <= 1000);
-            int found = -1;
-            for (int[] row : rows) {
-                if (row[0] >= atRadius) {
-                    found = row[1] + 1000;
-                }
-            }
-            return found;
-        }
-    }
-
-    /** The best from a step on to the end. */
-    private static final class Rest {
-        final int worth;
-        final int waste;
-        final int[] choices;
-
-        Rest(int worth, int waste, int[] choices) {
-            this.worth = worth;
-            this.waste = waste;
-            this.choices = choices;
-        }
-
-        Rest after(int choice, int moreWorth, int moreWaste) {
-            int[] all = new int[choices.length + 1];
-            all[0] = choice;
-            System.arraycopy(choices, 0, all, 1, choices.length);
-            return new Rest(worth + moreWorth, waste + moreWaste, all);
+            System.out.println("run " + run + ": " + Calls.told(call, a) + " answered " + got + ", due is " + want);
         }
     }
 }
