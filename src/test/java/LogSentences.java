@@ -258,6 +258,8 @@ final class LogSentences extends Due {
         // rooms of 1 and 18 by 3 parts: 100 / 3 and 424 / 3
         due(33, logWithout(4, 3, 2, 1, 0, 3, 1, 2)::radius);
         due(141, logWithout(4, 4, 0, 0, 0)::radius);
+        // a room of 101 by 3 parts: 1004.98 / 3, where 1005 / 3 would be 335
+        due(334, logWithout(4, 10, 0, 7, 3, 2, 1, 5)::radius);
     }
 
     @Sentence(promise = 6, says = "a corner x0, y0 of cells (0 .. SIDE each) at slice 0")
