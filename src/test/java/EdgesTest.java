@@ -8,7 +8,7 @@ import java.util.TreeSet;
 /**
  * Every call with its arguments at and beside all edges, each with each, on logs in every state
  * that the document tells apart. Compared with the model are what the call answers or throws, so
- * also which of several exceptions, and all that can be seen of the log behind it.
+ * also which of several exceptions, and what can be seen of the log behind it.
  */
 public final class EdgesTest {
     private static final int LEAST = Integer.MIN_VALUE;
@@ -97,7 +97,7 @@ public final class EdgesTest {
     }
 
     /**
-     * All that can be seen of a log. What changes nothing is asked first; then what tells whether
+     * What is looked at of a log. What changes nothing is asked first; then what tells whether
      * it is new, or which number it has, and what is clipped from there.
      */
     private static List<int[]> asks() {
